@@ -603,8 +603,8 @@ public final class GoatMatches {
 
     /** What a text tells. */
     private static final class Gorge {
-        // 60 units, what joins them, and at most 7 nots ahead of each.
-        private static final int MOST_STEPS = 540;
+        // 30 units, 29 signs that join them, and at most 7 nots ahead of each.
+        private static final int MOST_STEPS = 270;
 
         final long[] name = new long[MOST_FLOCKS];
         final int[] side = new int[MOST_FLOCKS];
@@ -753,7 +753,7 @@ public final class GoatMatches {
         private static final int UNKNOWN = 5;
         private static final int MOST_GRASSES = 8;
         private static final int MOST_FEUDS = 15;
-        // 60 in all can't be told, as the one formula takes 30.
+        // 60 in all are never reached: pull is told once, and what is within ( e ) is in its e too.
         private static final int MOST_UNITS = 30;
         private static final int DEEPEST = 7;
         private static final int OR_LEVEL = 0;
@@ -1181,7 +1181,7 @@ public final class GoatMatches {
 
     /** What draws the flocks, and a day of theirs. */
     private static final class Walk {
-        private static final int DEEPEST_STACK = 64;
+        private static final int DEEPEST_STACK = 32;
 
         private final int[] stack = new int[DEEPEST_STACK];
         private final int[] goal = new int[MOST_FLOCKS];
