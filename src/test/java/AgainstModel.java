@@ -4,6 +4,8 @@ import java.util.Random;
 public final class AgainstModel {
     private static int wrong = 0;
     private static int calls = 0;
+    // How many tricks answered NONE, 0, 1, 2, 3.
+    private static final int[] TRICKS = new int[5];
 
     private AgainstModel() { }
 
@@ -15,6 +17,15 @@ public final class AgainstModel {
         }
         for (int run = from; run < from + 40 * runs && wrong < 5; run++) {
             faults(run);
+        }
+        for (int run = from; run < from + 2 * runs && wrong < 5; run++) {
+            tricks(run);
+        }
+        for (int size = 0; size < TRICKS.length; size++) {
+            if (TRICKS[size] == 0) {
+                wrong++;
+                System.out.println("no trick answered " + (size - 1));
+            }
         }
         System.out.println("against the model: " + calls + " calls, " + wrong + " wrong");
         if (wrong > 0) {
@@ -56,6 +67,42 @@ public final class AgainstModel {
                 return;
             }
             compare(run, x, m);
+        }
+    }
+
+    /** Gorges in which salt leads flocks together, step by step. */
+    private static void tricks(int run) {
+        Random r = new Random(run * 17L + 3);
+        String[] pulls = {"salt*(1-here)", "salt*(1-here)+grass", "salt*9-others", "(salt>0)*(day+1)*(1-here)", "salt%7+home",
+            "grass+3*salt", "salt*home"};
+        int columns = 3 + r.nextInt(2);
+        StringBuilder text = new StringBuilder("gorge " + columns + " by 3;green " + r.nextInt(3) + ";");
+        for (int i = 0; i < 2 + r.nextInt(3); i++) {
+            text.append("flock ").append((char) ('a' + i)).append(i % 2 == 0 ? " bride" : " groom").append(" at ")
+                    .append(r.nextInt(columns)).append(' ').append(r.nextInt(3)).append(" size 1;");
+        }
+        text.append("pull ").append(pulls[r.nextInt(pulls.length)]).append(";");
+        GoatMatches x = new GoatMatches();
+        Model m = new Model();
+        tape(x, m, text.toString());
+        same(run, "gorge of " + text, x.gorge(), m.gorge());
+        for (int i = r.nextInt(3); i > 0; i--) {
+            int cell = r.nextInt(m.cells());
+            same(run, "salt " + cell, x.salt(cell), m.salt(cell));
+        }
+        for (int i = r.nextInt(3); i > 0; i--) {
+            same(run, "day", x.day(), m.day());
+        }
+        for (int i = 0; i < 4; i++) {
+            int evenings = 1 + r.nextInt(3);
+            int days = evenings + r.nextInt(5);
+            String call = "trick 0 1 " + evenings + " " + days + " of " + text;
+            int size = x.trick(0, 1, evenings, days, 0);
+            if (!same(run, call, size, m.trick(0, 1, evenings, days, 0))
+                    || !same(run, call, x.trick(0, 1, evenings, days, 1), m.trick(0, 1, evenings, days, 1))) {
+                return;
+            }
+            TRICKS[size + 1]++;
         }
     }
 

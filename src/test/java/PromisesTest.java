@@ -476,6 +476,12 @@ public final class PromisesTest {
         due("17, still mixed", 3, x.mixed(0, 1));
         due("17, to the left", 3, x.flock(1, 0));
         due("17, one cell is left", 1, x.grass());
+        x = new GoatMatches();
+        for (int i = 0; i < 999; i++) {
+            due("17, a day", 0, x.day());
+        }
+        due("17, behind 999", -1, x.day());
+        due("17, nothing done", 999, x.about(5));
         x = Texts.of("green 9;flock a bride at 0 0 size 4;flock b groom at 0 0 size 3;pull 0;");
         x.pen(0);
         x.day();
@@ -654,6 +660,16 @@ public final class PromisesTest {
         due("23, the one between", 8, x.trick(0, 1, 1, 1, 1));
         x.pen(1);
         due("23, three are not enough", -1, x.trick(0, 1, 1, 1, 0));
+        x = Texts.of("gorge 4 by 2;pull salt*(1-here);flock a bride at 0 0 size 1;flock b groom at 3 0 size 1;");
+        x.pen(1);
+        due("23, it turns back on its own salt", -1, x.trick(0, 1, 1, 3, 0));
+        x.drive(0, 1);
+        due("23, two", 2, x.trick(0, 1, 1, 2, 0));
+        due("23, which", 12, x.trick(0, 1, 1, 2, 1));
+        x.salt(3);
+        due("23, one where there is none yet", 4, x.trick(0, 1, 1, 2, 1));
+        due("23, too few days", -1, x.trick(0, 1, 1, 1, 1));
+        due("23, 20 days, over and over", 4, x.trick(0, 1, 2, 20, 1));
         x = Texts.of("gorge 3 by 2;pull grass;flock a bride at 0 0 size 1;flock b groom at 2 0 size 1;");
         due("23, salt that draws nobody", -1, x.trick(0, 1, 1, 1, 0));
     }
