@@ -86,11 +86,11 @@ public final class AgainstModel {
         Model m = new Model();
         tape(x, m, text.toString());
         same(run, "gorge of " + text, x.gorge(), m.gorge());
-        for (int i = r.nextInt(3); i > 0; i--) {
+        for (int i = r.nextInt(5); i > 0; i--) {
             int cell = r.nextInt(m.cells());
             same(run, "salt " + cell, x.salt(cell), m.salt(cell));
         }
-        for (int i = r.nextInt(3); i > 0; i--) {
+        for (int i = r.nextInt(2) * 8 + r.nextInt(2); i > 0; i--) {
             same(run, "day", x.day(), m.day());
         }
         for (int i = 0; i < 4; i++) {

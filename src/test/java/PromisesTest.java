@@ -37,6 +37,7 @@ public final class PromisesTest {
         seen();
         ask();
         boxes();
+        largest();
         System.out.println("promises: " + asked + " asked, " + wrong + " wrong");
         if (wrong > 0) {
             System.exit(1);
@@ -876,5 +877,35 @@ public final class PromisesTest {
         x.day();
         due("40, the box keeps it", 2, x.back(2));
         due("39, over it", 2, x.image(2));
+    }
+
+    /** All 25 cells, 6 flocks, 30 units, and all days that can be asked for. */
+    private static void largest() {
+        StringBuilder e = new StringBuilder("salt*day%3");
+        for (int i = 0; i < 9; i++) {
+            e.append("+grass*").append(i).append("%").append(i + 2);
+        }
+        GoatMatches x = Texts.of("gorge 5 by 5;flock a bride at 0 0 size 1;flock b groom at 4 4 size 9;"
+                + "flock c bride at 4 0 size 2;flock d groom at 0 4 size 3;flock e bride at 2 2 size 4;"
+                + "flock f groom at 2 3 size 5;pull " + e + ";rain 30 of 2;evenings 20;");
+        due("41, units", 30, x.about(13));
+        due("37, all cells", (1 << 25) - 1, x.ledges(0));
+        due("38, all are where they are", 25, x.ask(0, 1, 0));
+        due("7, the last cell", 2, x.ground(24, 2));
+        due("13, the last cell", 0, x.salt(24));
+        due("37, all but the last", (1 << 24) - 1, x.ledges(0));
+        due("23, never in a day", -1, x.trick(0, 1, 1, 1, 0));
+        due("23, never so far in seven days", -1, x.trick(0, 1, 9, 11, 0));
+        due("24, never so far in three days", 0, x.hold(0, 1, 3, 0));
+        due("25, never so far in three days", 0, x.lead(0, 1, 2, 1));
+        due("8, no cell 25", -1000000, x.pull(0, 25));
+        due("34, no cell 25", -1, x.seen(0, 0, 25, true));
+        due("15, to the last cell", -1, x.drive(1, 24));
+        due("15, from it", 24, x.drive(1, 23));
+        due("15, to it", 23, x.drive(1, 24));
+        x = Texts.of("gorge 5 by 5;flock a bride at 4 3 size 1;flock b groom at 4 4 size 1;pull salt*(1-here);");
+        x.pen(1);
+        due("23, the last cell", 1 << 24, x.trick(0, 1, 1, 1, 1));
+        due("23, it stays there", 1 << 24, x.trick(0, 1, 9, 20, 1));
     }
 }
