@@ -37,6 +37,7 @@ public final class PromisesTest {
         seen();
         ask();
         boxes();
+        sixtyDays();
         largest();
         System.out.println("promises: " + asked + " asked, " + wrong + " wrong");
         if (wrong > 0) {
@@ -205,6 +206,8 @@ public final class PromisesTest {
         faulty(2, "gorge 2 ^2;");
         faulty(2, "gorge 2 by 2;^gorge 2 by 2;");
         faulty(2, "green 2;^gorge 2 by 2;");
+        faulty(2, "grass 0 0 1;grass 1 0 1;^gorge 2 by 2;");
+        faulty(4, "gorge 5 by 5;grass 0 4 1;grass 0 ^5 1;");
         faulty(4, "green ^10;");
         faulty(2, "green 1;^green 1;");
         faulty(2, "pull 1;^pull 1;");
@@ -477,6 +480,7 @@ public final class PromisesTest {
         due("17, still mixed", 3, x.mixed(0, 1));
         due("17, to the left", 3, x.flock(1, 0));
         due("17, one cell is left", 1, x.grass());
+        // More calls than are promised of one object, but the document names this edge.
         x = new GoatMatches();
         for (int i = 0; i < 999; i++) {
             due("17, a day", 0, x.day());
@@ -688,6 +692,10 @@ public final class PromisesTest {
         due("24, none such", -1, x.hold(-1, 1, 1, 0));
         x.pen(0);
         due("24, a penned one is not penned once more", 0, x.hold(0, 1, 2, 1));
+        x = Texts.of("gorge 3 by 2;pull others*9+grass;flock a bride at 0 0 size 1;flock b groom at 2 0 size 1;"
+                + "green 0;grass 1 0 5;");
+        due("24, both, as each would come to the other", 2, x.hold(0, 1, 2, 0));
+        due("24, both", 3, x.hold(0, 1, 2, 1));
         x = Texts.of(FOUR + "pull 0;");
         due("24, all are not enough", -1, x.hold(0, 2, 1, 0));
         x = Texts.of("gorge 3 by 2;pull others*5;flock a bride at 0 0 size 1;flock b groom at 2 0 size 1;");
@@ -877,6 +885,29 @@ public final class PromisesTest {
         x.day();
         due("40, the box keeps it", 2, x.back(2));
         due("39, over it", 2, x.image(2));
+    }
+
+    /** One that first leaves home on the day 60, or on 61, to where the other one is penned. */
+    private static void sixtyDays() {
+        String late = "gorge 2 by 2;green 0;grass 0 0 1;flock b groom at 1 0 size 1;pull home*(day>";
+        String bride = "flock a bride at 1 1 size 1;";
+        due("32, 60", 60, Texts.of(late + "58);").bare());
+        due("32, 60 are not enough", -1, Texts.of(late + "59);").bare());
+        for (int day = 58; day < 60; day++) {
+            GoatMatches x = Texts.of(late + day + ");evenings 1;" + bride);
+            x.drive(1, 2);
+            x.drive(1, 0);
+            x.pen(1);
+            due("22, 60 at most", day == 58 ? 60 : -1, x.weds(0));
+            due("20, behind 60", day == 58 ? 0 : 1, x.will(0, 60));
+            due("21, behind 60", day == 58 ? 1 : 0, x.mixes(0, 1, 60));
+            due("26, behind 60", day == 58 ? 0 : 3, x.bachelors(60));
+            x = Texts.of(late + day + ");evenings 2;" + bride);
+            x.drive(1, 2);
+            x.drive(1, 0);
+            x.pen(1);
+            due("28, behind 60", day == 58 ? 2 : 0, x.law(1));
+        }
     }
 
     /** All 25 cells, 6 flocks, 30 units, and all days that can be asked for. */
