@@ -1353,8 +1353,6 @@ public final class GoatMatches {
 
     /** What would be, tried out on herds that stand for those of now. */
     private static final class Foresight {
-        private static final int MOST_SALT = 3;
-
         private final Walk walk;
         private final Herds trial = new Herds();
         // What flocks looked at with salt on two CELLS (or on one, twice), as bits.
