@@ -1,5 +1,6 @@
 import java.io.File;
 import java.io.IOException;
+import java.lang.reflect.Method;
 import java.nio.file.Files;
 import java.nio.file.Path;
 import java.util.List;
@@ -8,10 +9,10 @@ import java.util.regex.Pattern;
 import java.util.stream.Stream;
 import javax.tools.ToolProvider;
 
-/** Runs what README.md shows in Java, and looks whether it and .ci/run name every test. */
+/** Runs what README.md shows in Java, and looks whether it shows every call and names every test, as .ci/run does. */
 public final class ReadmeTest {
     private static final Pattern ANSWER = Pattern.compile("(x\\.\\w+\\(.*\\)); +// (-?\\d+|true|false)(:.*)?");
-    private static final int LEAST_ANSWERS = 40;
+    private static final int LEAST_ANSWERS = 50;
     private static int answers = 0;
     private static int wrong = 0;
 
@@ -21,6 +22,10 @@ public final class ReadmeTest {
         String page = Files.readString(Path.of(args.length > 0 ? args[0] : "README.md"));
         run(program(page));
         must(answers >= LEAST_ANSWERS, "README.md shows only " + answers + " answers");
+        for (Method m : GoatMatches.class.getMethods()) {
+            must(m.getDeclaringClass() != GoatMatches.class || page.contains(m.getName() + "("),
+                    "README.md does not show " + m.getName());
+        }
         tests(page, Files.readString(Path.of(".ci/run")));
         System.out.println("readme: " + answers + " answers, " + wrong + " wrong");
         if (wrong > 0) {
